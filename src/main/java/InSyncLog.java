@@ -193,7 +193,7 @@ public final class InSyncLog {
     }
 
     private static boolean contains(int set, int b) {
-        return (set >> b & 1) == 1;
+        return ((set >> b) & 1) == 1;
     }
 
     private boolean isUp(int b) {

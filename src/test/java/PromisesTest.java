@@ -353,6 +353,11 @@ public final class PromisesTest {
         x.govern(0);
         x.learn(1);
         due("committed(1), which leads", 0, x.committed(1));
+
+        x = alone(1, 1);
+        x.commit(0, 0);
+        x.produce(0, 5);
+        due("committed(0), a MARK at offset 0", 0, x.committed(0));
     }
 
     // Promise 6.
@@ -620,17 +625,26 @@ public final class PromisesTest {
         x.deliver(0);
         dueLog(x, 0, 1, 10);
 
+        // END above that of a leader all of whose records are of the FETCH's last epoch.
+        x = new InSyncLog(5, 3, 1);
+        x.produce(0, 10);
+        exchange(x, 1);
+        x.produce(0, 11);
+        x.govern(1);
+        x.learn(1);
+        x.learn(0);
+        x.fetch(0);
+        x.deliver(0);
+        dueMessage(x, 0, CUT, 1, 0, 2, 1, 1, 1);
+        x.deliver(0);
+        dueLog(x, 0, 1, 10);
+
         // A CUT counts for no FETCHED: with 0 behind START review does not take it in.
         x = split();
         exchange(x, 0);
         due("review(1) after a CUT", 14, x.review(1));
 
-        // A CUT is taken once: its FETCH is AWAITED no more.
-        x = split();
-        x.fetch(0);
-        x.deliver(0);
-        x.deliver(0);
-        due("END of 0", 1, x.broker(0, 4));
+        // No message follows a CUT by itself.
         due("flight()", 0, x.flight());
     }
 
@@ -957,6 +971,31 @@ public final class PromisesTest {
         x.fetch(2);
         x.deliver(0);
         due("review(1), FETCHED 2, START", 14, x.review(1));
+
+        // HW waits for broker 0, too, when it is back in SYNC.
+        x = new InSyncLog(20, 3, 1);
+        x.govern(1);
+        x.learn(1);
+        for (int f = 0; f < 4; f++) {
+            x.learn(f);
+        }
+        exchange(x, 0);
+        due("review(1), 0 is back", 15, x.review(1));
+        x.produce(1, 5);
+        for (int f = 2; f < 4; f++) {
+            exchange(x, f);
+            exchange(x, f);
+        }
+        due("HW waits for 0", 0, x.broker(1, 5));
+        exchange(x, 0);
+        exchange(x, 0);
+        due("HW", 1, x.broker(1, 5));
+
+        // With START 0, too, a broker outside of SYNC has to FETCH before it is in.
+        x = new InSyncLog(20, 3, 1);
+        x.govern(1);
+        x.learn(1);
+        due("review(1), of 0 nothing is FETCHED", 14, x.review(1));
 
         // A follower of SYNC stays, though nothing is FETCHED by it yet; HW waits for it.
         x = behindStart();
