@@ -196,6 +196,15 @@ public final class InSyncLog {
         return ((set >> b) & 1) == 1;
     }
 
+    private static int leastOf(int set) {
+        for (int b = 0; b < BROKERS; b++) {
+            if (contains(set, b)) {
+                return b;
+            }
+        }
+        return NONE;
+    }
+
     private boolean isUp(int b) {
         return isBroker(b) && brokers[b].up;
     }
@@ -426,7 +435,7 @@ public final class InSyncLog {
             if (leaderAlive && remaining == isr) {
                 return false;
             }
-            return begin(leaderAlive ? leader : Integer.numberOfTrailingZeros(remaining), remaining);
+            return begin(leaderAlive ? leader : leastOf(remaining), remaining);
         }
 
         private boolean begin(int newLeader, int newIsr) {
