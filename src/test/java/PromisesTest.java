@@ -1,21 +1,8 @@
-/** For each promise of the document: ordinary inputs, the edges it names, and wrong inputs. */
-public final class PromisesTest {
-    private static final int NONE = -1;
-    private static final int FULL = -2;
-    private static final int FEW = -3;
-    private static final int FETCH = 0;
-    private static final int CUT = 1;
-    private static final int BATCH = 2;
-    private static final int MIN = Integer.MIN_VALUE;
-    private static final int MAX = Integer.MAX_VALUE;
-    private static final int[] NO_BROKERS = {-1, 4, 32, MIN, MAX};
-
-    private final Checks checks = new Checks();
-
+/** For each promise of the document: ordinary runs of calls, with edges and wrong inputs among them. */
+public final class PromisesTest extends Bench {
     public static void main(String[] args) {
         PromisesTest test = new PromisesTest();
         test.newObject();
-        test.ranges();
         test.produce();
         test.produceRefused();
         test.commit();
@@ -53,72 +40,6 @@ public final class PromisesTest {
         test.checks.finish();
     }
 
-    // Helpers.
-
-    private void due(String what, int want, int got) {
-        checks.due(what, want, got);
-    }
-
-    private void due(String what, boolean want, boolean got) {
-        checks.due(what, want, got);
-    }
-
-    /** Broker f fetches and gets its reply, in a channel that is empty before and after. */
-    private void exchange(InSyncLog x, int f) {
-        due("fetch(" + f + ") of an exchange", true, x.fetch(f));
-        due("deliver(0) of a FETCH of " + f, true, x.deliver(0));
-        due("deliver(0) of the reply to " + f, true, x.deliver(0));
-    }
-
-    /** The same some times, behind messages that stay in the channel. */
-    private void exchangeLast(InSyncLog x, int f, int times) {
-        for (int i = 0; i < times; i++) {
-            x.fetch(f);
-            x.deliver(x.flight() - 1);
-            x.deliver(x.flight() - 1);
-        }
-    }
-
-    private void exchangeAll(InSyncLog x) {
-        for (int f = 1; f < 4; f++) {
-            exchange(x, f);
-        }
-    }
-
-    /** An object whose broker 0 leads alone in ISR and SYNC, still in epoch 1. */
-    private InSyncLog alone(int batch, int least) {
-        InSyncLog x = new InSyncLog(1, batch, least);
-        x.tick(2);
-        due("review(0) of a lonely leader", 1, x.review(0));
-        return x;
-    }
-
-    private void dueMessage(InSyncLog x, int i, int... words) {
-        for (int w = 0; w < words.length; w++) {
-            due("message(" + i + ", " + w + ")", words[w], x.message(i, w));
-        }
-    }
-
-    private void dueBroker(InSyncLog x, int b, int... facts) {
-        for (int k = 0; k < facts.length; k++) {
-            due("broker(" + b + ", " + k + ")", facts[k], x.broker(b, k));
-        }
-    }
-
-    private void dueController(InSyncLog x, int epoch, int leader, int isr) {
-        due("controller(0)", epoch, x.controller(0));
-        due("controller(1)", leader, x.controller(1));
-        due("controller(2)", isr, x.controller(2));
-    }
-
-    private void dueLog(InSyncLog x, int b, int... epochsAndValues) {
-        due("END of " + b, epochsAndValues.length / 2, x.broker(b, 4));
-        for (int i = 0; i < epochsAndValues.length / 2; i++) {
-            due("epochAt(" + b + ", " + i + ")", epochsAndValues[2 * i], x.epochAt(b, i));
-            due("valueAt(" + b + ", " + i + ")", epochsAndValues[2 * i + 1], x.valueAt(b, i));
-        }
-    }
-
     // Promise 1.
 
     private void newObject() {
@@ -140,41 +61,6 @@ public final class PromisesTest {
         due("END in another object", 0, y.broker(0, 4));
         due("flight() of another object", 0, y.flight());
         due("UP in another object", 1, y.broker(2, 0));
-    }
-
-    private void ranges() {
-        checks.part("promise 1, ranges");
-        int[][] lags = {{MIN, 1}, {-1, 1}, {0, 1}, {1, 1}, {2, 2}, {7, 7}, {19, 19}, {20, 20}, {21, 20}, {MAX, 20}};
-        for (int[] lag : lags) {
-            InSyncLog x = new InSyncLog(lag[0], 1, 1);
-            x.tick(lag[1]);
-            due("review(0) at LAG " + lag[0], 15, x.review(0));
-            x.tick(1);
-            due("review(0) beyond LAG " + lag[0], 1, x.review(0));
-        }
-        int[][] batches = {{MIN, 1}, {0, 1}, {1, 1}, {2, 2}, {3, 3}, {4, 3}, {MAX, 3}};
-        for (int[] batch : batches) {
-            InSyncLog x = new InSyncLog(1, batch[0], 1);
-            for (int i = 0; i < 5; i++) {
-                x.produce(0, i);
-            }
-            exchange(x, 1);
-            due("END after one batch, BATCH " + batch[0], batch[1], x.broker(1, 4));
-        }
-        int[][] leasts = {{MIN, 1}, {0, 1}, {1, 1}, {2, 2}, {3, 3}, {4, 3}, {MAX, 3}};
-        for (int[] least : leasts) {
-            for (int others = 0; others < 4; others++) {
-                InSyncLog x = new InSyncLog(5, 1, least[0]);
-                x.tick(5);
-                for (int f = 1; f <= others; f++) {
-                    exchange(x, f);
-                }
-                x.tick(1);
-                x.review(0);
-                due("produce with " + (others + 1) + " in SYNC, LEAST " + least[0],
-                        others + 1 < least[1] ? FEW : 0, x.produce(0, 9));
-            }
-        }
     }
 
     // Promise 2.
@@ -584,22 +470,6 @@ public final class PromisesTest {
         x.learn(0);
         exchange(x, 1);
         due("END of 1", 2, x.broker(1, 4));
-    }
-
-    /** Broker 0 has three records of epoch 1 that 1 has not, and 1 leads in epoch 2 with others. */
-    private InSyncLog split() {
-        InSyncLog x = new InSyncLog(5, 3, 1);
-        x.produce(0, 10);
-        exchange(x, 1);
-        x.produce(0, 11);
-        x.produce(0, 12);
-        x.crash(0);
-        x.govern(0);
-        x.learn(1);
-        x.produce(1, 20);
-        x.restart(0);
-        x.learn(0);
-        return x;
     }
 
     private void deliverCut() {
