@@ -183,6 +183,16 @@ abstract class Bench {
         return x;
     }
 
+    /** Broker 0 has so many records, and has learned that it is alone in ISR: HW is 0 until it RISES. */
+    final InSyncLog aboutToRise(int records, int least) {
+        InSyncLog x = new InSyncLog(5, 3, least);
+        produceMany(x, 0, records);
+        x.govern(14);
+        x.learn(0);
+        dueBroker(x, 0, 1, 2, 0, 1, records, 0, 0);
+        return x;
+    }
+
     /** Of broker 0 alone in SYNC 40 records, all of which count. */
     final InSyncLog fullAlone(int least) {
         InSyncLog x = new InSyncLog(1, 3, least);

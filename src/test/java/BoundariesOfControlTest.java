@@ -21,7 +21,8 @@ public final class BoundariesOfControlTest extends Bench {
     }
 
     private void reviews() {
-        sentence("promise 11", "NONE if b does not lead (or is none)", this::reviewOfNone, this::reviewOfOneNotLeading);
+        sentence("promise 11", "NONE if b does not lead (or is none)",
+                this::reviewOfNone, this::reviewOfOneNotLeading);
         sentence("promise 11", "or knows of another epoch than EPOCH", this::reviewInAnotherEpoch);
         sentence("promise 11", "b itself", this::leaderNeverLags);
         sentence("promise 11", "the brokers of SYNC that are not LAGGING", this::lagOfEachInSync,
@@ -41,7 +42,7 @@ public final class BoundariesOfControlTest extends Bench {
         sentence("promise 12", "is not UP", this::learnOfOneDown);
         sentence("promise 12", "or knows of EPOCH already", this::learnOfKnownEpoch);
         sentence("promise 13", "false if it is no broker or is not UP", this::crashOfNone, this::crashOfOneDown);
-        sentence("promise 13", "Logs and HWs outlast crashes", this::whatOutlastsCrashes);
+        sentence("terms, promise 13", "Logs and HWs outlast crashes", this::whatOutlastsCrashes);
         sentence("promise 14", "false if it is no broker or is UP", this::restartOfNone, this::restartOfOneUp);
     }
 
@@ -52,6 +53,7 @@ public final class BoundariesOfControlTest extends Bench {
         sentence("promise 15", "If no broker of ISR is ALIVE: if LEADER is a broker, LEADER becomes NONE",
                 this::noneOfIsrAlive);
         sentence("promise 15", "(ISR stays)", this::isrWaits);
+        sentence("promise 15", "LEADER stays, if it is ALIVE", this::leaderThatIsNotLeast);
         sentence("promise 15", "or else becomes the least broker of ISR that is ALIVE", this::leastOfIsr);
         sentence("promise 15", "True if EPOCH grew, else false", this::governInVain);
     }
@@ -135,7 +137,8 @@ public final class BoundariesOfControlTest extends Bench {
     }
 
     private void reviewInAnotherEpoch() {
-        refused("review of 0, LEADER in an epoch it has not learned", NONE, () -> overdueWith(8), x -> x.review(0));
+        refused("review of 0, LEADER in an epoch it has not learned", NONE,
+                () -> overdueWith(8), x -> x.review(0));
         refused("review of 0, LEADER no more", NONE, () -> overdueWith(1), x -> x.review(0));
         refused("review of 0, LEADER is NONE", NONE, () -> overdueWith(15), x -> x.review(0));
         refused("review of 1, LEADER but it has not learned", NONE, () -> overdueWith(1), x -> x.review(1));
@@ -558,10 +561,25 @@ public final class BoundariesOfControlTest extends Bench {
         x.crash(1);
         due("govern(1), 1 is in ISR, but down", true, x.govern(1));
         dueController(x, 2, 2, 12);
-        // LEADER stays, if it is ALIVE, also if it is not the least.
-        due("govern(0), 0 is back", false, x.govern(0));
+    }
+
+    private void leaderThatIsNotLeast() {
+        // 2 leads, and 0 and 1 have come back to ISR.
+        InSyncLog x = fresh();
+        x.govern(3);
+        x.learn(2);
+        for (int f = 0; f < 2; f++) {
+            x.learn(f);
+            exchange(x, f);
+        }
+        due("review(2)", 15, x.review(2));
+        due("govern(0)", false, x.govern(0));
         due("govern(8)", true, x.govern(8));
-        dueController(x, 3, 2, 4);
+        dueController(x, 3, 2, 7);
+        due("govern(2)", true, x.govern(2));
+        dueController(x, 4, 2, 5);
+        due("govern(4)", true, x.govern(4));
+        dueController(x, 5, 0, 1);
     }
 
     private void governInVain() {

@@ -32,6 +32,7 @@ public final class BoundariesOfMessagesTest extends Bench {
 
     private void deliverAndLose() {
         sentence("promise 7", "(0 is the first)", this::deliverFirstAndLastOfEight);
+        sentence("promise 7", "(also if nothing happens by it): true", this::deliverInVain);
         sentence("promise 7", "false if there is none such", this::deliverNoneOfEmpty, this::deliverNoneOfOne,
                 this::deliverNoneOfEight);
         sentence("promise 8", "Message i of the channel is lost", this::loseFirstAndLastOfEight);
@@ -40,28 +41,35 @@ public final class BoundariesOfMessagesTest extends Bench {
     }
 
     private void deliveredFetch() {
-        sentence("promise 7", "Nothing happens if b does not lead", this::fetchToOneNotLeading);
-        sentence("promise 7", "or knows of another epoch than the FETCH bears", this::fetchOfAnotherEpoch);
-        sentence("promise 7", "if n is above END of b", this::fetchAroundEnd);
-        sentence("promise 7", "or n is above 0 and the record of b at n - 1 has another epoch than e",
+        sentence("terms, promise 7", "Nothing happens if b does not lead", this::fetchToOneNotLeading);
+        sentence("terms, promise 7", "or knows of another epoch than the FETCH bears", this::fetchOfAnotherEpoch);
+        sentence("terms, promise 7", "if n is above END of b", this::fetchAroundEnd);
+        sentence("terms, promise 7", "or n is above 0 and the record of b at n - 1 has another epoch than e",
                 this::fetchOfNothing, this::fetchAroundAnotherEpoch);
-        sentence("promise 7", "(0 if w is 0)", this::cutToNothing);
-        sentence("promise 7", "Else FETCHED by f becomes n, if it was less", this::lateFetchTakesNothingBack);
-        sentence("promise 7", "f is CAUGHT UP now if n is END of b", this::caughtUpAtEnd, this::cutIsNotCaughtUp);
-        sentence("promise 7", "then b sends f a BATCH", this::batchBearsHwAsRisen);
-        sentence("promise 7", "at most BATCH of them, as they are then", this::sizesOfBatches,
+        sentence("terms, promise 7", "(0 if w is 0)", this::cutToNothing);
+        sentence("terms, promise 7", "Else FETCHED by f becomes n, if it was less",
+                this::lateFetchTakesNothingBack,
+                this::cutIsNotFetched);
+        sentence("terms, promise 7", "f is CAUGHT UP now if n is END of b",
+                this::caughtUpAtEnd, this::cutIsNotCaughtUp);
+        sentence("terms, promise 7", "then b sends f a BATCH", this::batchBearsHwAsRisen);
+        sentence("terms, promise 7", "at most BATCH of them, as they are then", this::sizesOfBatches,
                 this::recordsAsTheyWere);
     }
 
     private void deliveredReply() {
-        sentence("promise 7", "Nothing happens if f is not UP, knows of another epoch than the message bears, or leads",
+        sentence("terms, promise 7",
+                "Nothing happens if f is not UP, knows of another epoch than the message bears, or leads",
                 this::replyToOneDown, this::replyOfAnotherEpoch, this::replyToLeader);
-        sentence("promise 7", "or if the number is not that of its latest FETCH", this::replyToEarlierFetch);
-        sentence("promise 7", "or that FETCH was AWAITED no more", this::replyAwaitedNoMore);
-        sentence("promise 7", "T being the lesser of w and the number of records of f whose epochs are at most e",
+        sentence("terms, promise 7", "or if the number is not that of its latest FETCH",
+                this::replyToEarlierFetch);
+        sentence("terms, promise 7", "or that FETCH was AWAITED no more", this::replyAwaitedNoMore);
+        sentence("terms, promise 7",
+                "T being the lesser of w and the number of records of f whose epochs are at most e",
                 this::cutByW, this::cutByFollowersEpochs, this::cutLeavesHw);
-        sentence("promise 7", "the HW of f becomes the lesser of the BATCH's HW and END of f", this::hwOfBatchAndEnd);
-        sentence("promise 7", "if that is more than it was", this::hwOfFollowerNeverFalls);
+        sentence("terms, promise 7", "the HW of f becomes the lesser of the BATCH's HW and END of f",
+                this::hwOfBatchAndEnd);
+        sentence("terms, promise 7", "if that is more than it was", this::hwOfFollowerNeverFalls);
     }
 
     private void looks() {
@@ -291,6 +299,20 @@ public final class BoundariesOfMessagesTest extends Bench {
         due("flight()", 5, x.flight());
     }
 
+    private void deliverInVain() {
+        InSyncLog x = one();
+        x.fetch(2);
+        x.crash(0);
+        due("deliver(0) to one not UP", true, x.deliver(0));
+        due("flight()", 1, x.flight());
+        dueMessage(x, 0, FETCH, 2, 0, 1, 1, 0, 0);
+        x = oneBatch();
+        x.fetch(1);
+        due("deliver(0) of a BATCH that is not AWAITED", true, x.deliver(0));
+        due("flight()", 1, x.flight());
+        dueMessage(x, 0, FETCH, 1, 0, 1, 2, 0, 0);
+    }
+
     private void deliverNoneOfEmpty() {
         refused("deliver(0)", this::fresh, x -> x.deliver(0));
         refused("deliver(1)", this::fresh, x -> x.deliver(1));
@@ -412,6 +434,31 @@ public final class BoundariesOfMessagesTest extends Bench {
             x.fetch(1);
             return x;
         });
+        // Taken, these FETCHes of a record would let HW rise.
+        inVain("a FETCH of a record and of an earlier epoch", 0, () -> {
+            InSyncLog x = fresh();
+            x.produce(0, 10);
+            exchange(x, 1);
+            x.fetch(1);
+            x.govern(12);
+            x.learn(0);
+            x.tick(1);
+            dueBroker(x, 0, 1, 2, 0, 3, 1, 0);
+            dueMessage(x, 0, FETCH, 1, 0, 1, 2, 1, 1);
+            return x;
+        });
+        inVain("a FETCH of a record and of a later epoch", 0, () -> {
+            InSyncLog x = inSyncWith(1, 1);
+            x.produce(0, 10);
+            exchange(x, 1);
+            x.govern(2);
+            x.learn(1);
+            x.fetch(1);
+            x.tick(1);
+            dueBroker(x, 0, 1, 1, 0, 3, 1, 0);
+            dueMessage(x, 0, FETCH, 1, 0, 2, 3, 1, 1);
+            return x;
+        });
         // The leader was down meanwhile, but the epoch is the same.
         InSyncLog x = one();
         x.crash(0);
@@ -512,6 +559,15 @@ public final class BoundariesOfMessagesTest extends Bench {
         x.fetch(1);
         x.deliver(0);
         due("review(0), FETCHED is 0", 1, x.review(0));
+    }
+
+    private void cutIsNotFetched() {
+        // The leader 1 has nothing, HW 0 and START 0; 0 is outside of ISR.
+        InSyncLog x = behind(1, 0);
+        exchange(x, 0);
+        due("review(1) after a CUT", 14, x.review(1));
+        exchange(x, 0);
+        due("review(1) after a BATCH", 15, x.review(1));
     }
 
     private void caughtUpAtEnd() {

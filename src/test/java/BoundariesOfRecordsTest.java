@@ -19,27 +19,34 @@ public final class BoundariesOfRecordsTest extends Bench {
         sentence("promise 1", "but the nearest number of their ranges where they are outside of them",
                 this::lagAndItsRange, this::batchAndItsRange, this::leastAndItsRange, this::eachByItself);
         sentence("terms", "Each has a LOG of at most 40 RECORDS", this::fortyRecordsInEachLog);
-        sentence("terms", "An object is used for at most 512 calls", this::theLastOf512Calls);
+        sentence("what it is", "An object is used for at most 512 calls", this::theLastOf512Calls);
     }
 
     private void produceAndCommit() {
         sentence("promise 2", "this value", this::producedValues);
         sentence("promise 2", "by what it knows, whatever the controller has", this::produceByWhatIsKnown);
-        sentence("promise 2", "NONE if b does not lead (or is none)", this::produceOfNone, this::produceOfOneNotLeading);
+        sentence("promise 2", "NONE if b does not lead (or is none)",
+                this::produceOfNone, this::produceOfOneNotLeading);
         sentence("promise 2", "FULL if its log has 40 records", this::produceIntoFull);
         sentence("promise 2", "FEW if SYNC has fewer than LEAST brokers", this::produceWithFew);
-        sentence("promise 2", "the one that stands first in the method's comment is given", this::firstAnswerOfProduce);
-        sentence("promise 3", "NONE if b does not lead (or is none)", this::commitOfNone, this::commitOfOneNotLeading);
+        sentence("terms, promise 2", "the one that stands first in the method's comment is given",
+                this::firstAnswerOfProduce);
+        sentence("promise 3", "NONE if b does not lead (or is none)",
+                this::commitOfNone, this::commitOfOneNotLeading);
         sentence("promise 3", "or offset is not 0 .. HW of b", this::commitAroundHwZero, this::commitAroundHw,
                 this::commitBetweenHwAndEnd);
         sentence("promise 3", "FULL if its log has 40 records", this::commitIntoFull);
         sentence("promise 3", "FEW if SYNC has fewer than LEAST brokers", this::commitWithFew);
-        sentence("promise 3", "the one that stands first in the method's comment is given", this::firstAnswerOfCommit);
+        sentence("terms, promise 3", "the one that stands first in the method's comment is given",
+                this::firstAnswerOfCommit);
+        sentence("terms", "the least of its own END and of what is FETCHED by each other broker in SYNC",
+                this::hwWaitsForEachInSync);
         sentence("terms", "if that is more than its HW", this::hwNeverFalls);
     }
 
     private void consumers() {
-        sentence("promise 4", "0 if b does not lead (or is none)", this::readableOfNone, this::readableOfOneNotLeading);
+        sentence("promise 4", "0 if b does not lead (or is none)",
+                this::readableOfNone, this::readableOfOneNotLeading);
         sentence("promise 4", "or offset is not from 0 to below HW of b", this::readableInEmptyLog,
                 this::readableAroundHw, this::readableInFullLog);
         sentence("promise 5", "NONE if b does not lead (or is none)", this::committedOfNone,
@@ -253,6 +260,7 @@ public final class BoundariesOfRecordsTest extends Bench {
         due("the last value", 5, x.valueAt(0, 39));
         refused("produce into a full log, HW 0", FULL, this::fullUncounted, y -> y.produce(0, 5));
         refused("produce into a full log, HW 40", FULL, () -> fullAlone(1), y -> y.produce(0, 5));
+        refused("produce into a full log, HW about to rise", FULL, () -> aboutToRise(40, 1), y -> y.produce(0, 5));
     }
 
     /** 40 records of broker 0, and HW 0. */
@@ -271,6 +279,7 @@ public final class BoundariesOfRecordsTest extends Bench {
         refused("produce, 1 in SYNC of 2", FEW, () -> inSyncWith(0, 2), x -> x.produce(0, 5));
         refused("produce, 1 in SYNC of 3", FEW, () -> inSyncWith(0, 3), x -> x.produce(0, 5));
         refused("produce, 2 in SYNC of 3", FEW, () -> inSyncWith(1, 3), x -> x.produce(0, 5));
+        refused("produce, 1 in SYNC of 2, HW about to rise", FEW, () -> aboutToRise(3, 2), x -> x.produce(0, 5));
 
         // SYNC counts, not ISR: it is as the leader learned it, and not as it has become.
         InSyncLog x = new InSyncLog(5, 3, 2);
@@ -330,7 +339,8 @@ public final class BoundariesOfRecordsTest extends Bench {
         due("commit(0, 0), HW 0 and an empty log", 0, x.commit(0, 0));
         dueLog(x, 0, -1, 0);
         for (int offset : new int[] {1, 2, -1, 40, MIN, MAX}) {
-            refused("commit(0, " + offset + "), HW 0", NONE, () -> new InSyncLog(5, 3, 1), y -> y.commit(0, offset));
+            refused("commit(0, " + offset + "), HW 0", NONE,
+                () -> new InSyncLog(5, 3, 1), y -> y.commit(0, offset));
         }
     }
 
@@ -354,6 +364,7 @@ public final class BoundariesOfRecordsTest extends Bench {
         due("commit(0, 3), below END", NONE, x.commit(0, 3));
         due("commit(0, 5), END", NONE, x.commit(0, 5));
         due("commit(0, 2), HW", 5, x.commit(0, 2));
+        refused("commit(0, 1), HW 0 about to rise to 3", NONE, () -> aboutToRise(3, 1), y -> y.commit(0, 1));
     }
 
     private void commitIntoFull() {
@@ -367,6 +378,8 @@ public final class BoundariesOfRecordsTest extends Bench {
         refused("commit(0, 0) into a full log", FULL, () -> fullAlone(1), y -> y.commit(0, 0));
         refused("commit(0, 40) into a full log", FULL, () -> fullAlone(1), y -> y.commit(0, 40));
         refused("commit(0, 0) into a full log, HW 0", FULL, this::fullUncounted, y -> y.commit(0, 0));
+        refused("commit(0, 0) into a full log, HW about to rise", FULL,
+                () -> aboutToRise(40, 1), y -> y.commit(0, 0));
     }
 
     private void commitWithFew() {
@@ -376,6 +389,7 @@ public final class BoundariesOfRecordsTest extends Bench {
         refused("commit, 1 in SYNC of 2", FEW, () -> inSyncWith(0, 2), x -> x.commit(0, 0));
         refused("commit, 1 in SYNC of 3", FEW, () -> inSyncWith(0, 3), x -> x.commit(0, 0));
         refused("commit, 2 in SYNC of 3", FEW, () -> inSyncWith(1, 3), x -> x.commit(0, 0));
+        refused("commit, 1 in SYNC of 2, HW about to rise", FEW, () -> aboutToRise(3, 2), x -> x.commit(0, 0));
     }
 
     private void firstAnswerOfCommit() {
@@ -390,6 +404,50 @@ public final class BoundariesOfRecordsTest extends Bench {
         InSyncLog x = fullAlone(3);
         x.crash(0);
         due("NONE when down before FULL and FEW", NONE, x.commit(0, 0));
+    }
+
+    private void hwWaitsForEachInSync() {
+        for (int leader = 0; leader < 4; leader++) {
+            for (int slow = 0; slow < 4; slow++) {
+                if (slow != leader) {
+                    dueHwHeldBack(leader, slow);
+                }
+            }
+        }
+    }
+
+    private void dueHwHeldBack(int leader, int slow) {
+        InSyncLog x = allInSync(leader);
+        produceMany(x, leader, 3);
+        for (int f = 0; f < 4; f++) {
+            for (int i = 0; i < 3 && f != leader && f != slow; i++) {
+                exchange(x, f);
+            }
+        }
+        due("HW of " + leader + ", " + slow + " has FETCHED 0", 0, x.broker(leader, 5));
+        exchange(x, slow);
+        due("HW of " + leader + ", " + slow + " has FETCHED 0", 0, x.broker(leader, 5));
+        exchange(x, slow);
+        due("HW of " + leader + ", " + slow + " has FETCHED 2", 2, x.broker(leader, 5));
+        exchange(x, slow);
+        due("HW of " + leader + ", all have FETCHED 3", 3, x.broker(leader, 5));
+    }
+
+    /** An object with empty logs and BATCH 2 whose given broker leads, with all four in SYNC. */
+    private InSyncLog allInSync(int leader) {
+        InSyncLog x = new InSyncLog(20, 2, 1);
+        x.govern(15);
+        x.govern(15 - (1 << leader));
+        for (int k = 0; k < 4; k++) {
+            x.learn((leader + k) % 4);
+        }
+        for (int f = 0; f < 4; f++) {
+            if (f != leader) {
+                exchange(x, f);
+            }
+        }
+        due("review(" + leader + ")", 15, x.review(leader));
+        return x;
     }
 
     private void hwNeverFalls() {
@@ -444,12 +502,14 @@ public final class BoundariesOfRecordsTest extends Bench {
 
     private void readableAroundHw() {
         InSyncLog x = counted();
-        x.produce(0, 1);
+        produceMany(x, 0, 3);
         due("readable(0, 0), DATA", 1, x.readable(0, 0));
         due("readable(0, 1), a MARK, the last below HW", 2, x.readable(0, 1));
         due("readable(0, 2), at HW", 0, x.readable(0, 2));
-        due("readable(0, 3), at END", 0, x.readable(0, 3));
-        due("readable(0, 4), above END", 0, x.readable(0, 4));
+        due("readable(0, 3), above HW", 0, x.readable(0, 3));
+        due("readable(0, 4), below END", 0, x.readable(0, 4));
+        due("readable(0, 5), at END", 0, x.readable(0, 5));
+        due("readable(0, 6), above END", 0, x.readable(0, 6));
         for (int offset : NO_OFFSETS) {
             due("readable(0, " + offset + ")", 0, x.readable(0, offset));
         }

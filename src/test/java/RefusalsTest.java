@@ -44,6 +44,9 @@ public final class RefusalsTest extends Bench {
         scenes.put("few in sync", () -> inSyncWith(1, 3));
         scenes.put("a full log", () -> fullAlone(1));
         scenes.put("a full log and few in sync", () -> fullAlone(2));
+        scenes.put("HW about to rise", () -> aboutToRise(3, 1));
+        scenes.put("HW about to rise, few in sync", () -> aboutToRise(3, 2));
+        scenes.put("HW about to rise, a full log", () -> aboutToRise(40, 1));
         scenes.put("logs apart", this::split);
         scenes.put("messages under way", this::underWay);
         scenes.put("a full channel", this::fullChannel);
