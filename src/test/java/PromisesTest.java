@@ -2,6 +2,7 @@
 public final class PromisesTest extends Bench {
     public static void main(String[] args) {
         PromisesTest test = new PromisesTest();
+        test.whatCountsIsKept();
         test.newObject();
         test.produce();
         test.produceRefused();
@@ -38,6 +39,49 @@ public final class PromisesTest extends Bench {
         test.broker();
         test.records();
         test.checks.finish();
+    }
+
+    // What it is.
+
+    private void whatCountsIsKept() {
+        checks.part("what it is, whoever leads later has it, too");
+        InSyncLog x = new InSyncLog(5, 3, 1);
+        x.produce(0, 10);
+        for (int b = 1; b < 4; b++) {
+            fetchTwiceAbove(x, b - 1);
+            due("the last record of " + (b - 1) + " counts", 1, x.readable(b - 1, b - 1));
+            x.crash(b - 1);
+            due("govern(0)", true, x.govern(0));
+            dueController(x, b + 1, b, 15 >> b << b);
+            for (int f = b; f < 4; f++) {
+                due("learn(" + f + ")", true, x.learn(f));
+            }
+            due("produce(" + b + ")", b, x.produce(b, 10 + b));
+        }
+        dueLog(x, 3, 1, 10, 2, 11, 3, 12, 4, 13);
+
+        // Broker 0 is back with the first record alone, and leads once it has them all.
+        x.restart(0);
+        x.learn(0);
+        dueLog(x, 0, 1, 10);
+        due("review(3), 0 has FETCHED nothing", 8, x.review(3));
+        exchange(x, 0);
+        exchange(x, 0);
+        due("review(3), 0 has them all", 9, x.review(3));
+        x.crash(3);
+        x.govern(0);
+        dueController(x, 5, 0, 1);
+        x.learn(0);
+        dueLog(x, 0, 1, 10, 2, 11, 3, 12, 4, 13);
+        due("HW of 0", 4, x.broker(0, 5));
+        due("produce(0)", 4, x.produce(0, 14));
+    }
+
+    private void fetchTwiceAbove(InSyncLog x, int leader) {
+        for (int f = leader + 1; f < 4; f++) {
+            exchange(x, f);
+            exchange(x, f);
+        }
     }
 
     // Promise 1.
